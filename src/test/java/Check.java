@@ -92,6 +92,22 @@ final class Check {
         }
     }
 
+    /** The types of the messages from k on, a blank between: pairs of what is asked and answered. */
+    static String kinds(SpaceHouse x, int k) {
+        StringBuilder text = new StringBuilder();
+        for (int i = k; i < x.messages(); i++) {
+            text.append(i == k ? "" : " ").append(x.message(i, 4));
+        }
+        return text.toString();
+    }
+
+    /** A SpaceHouse with a process 0 of that user. */
+    static SpaceHouse house(int user) {
+        SpaceHouse x = new SpaceHouse();
+        due("login", x.login(user), 0);
+        return x;
+    }
+
     /** Message k as hexadecimal digits. */
     static String message(SpaceHouse x, int k) {
         StringBuilder text = new StringBuilder();

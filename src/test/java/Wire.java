@@ -73,7 +73,7 @@ final class Wire {
         if (n < 7 || number(0, 4) != n || number(5, 2) != 7) {
             return -1;
         }
-        if (number(4, 1) == type + 1) {
+        if (number(4, 1) == type + 1 && type != 106) {
             return 0;
         }
         if (number(4, 1) != 107 || number(7, 2) != n - 9) {
