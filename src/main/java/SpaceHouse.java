@@ -468,6 +468,19 @@ public final class SpaceHouse {
             return true;
         }
 
+        /** Whether these bytes are so many dots. */
+        boolean areDots(int start, int end, int n) {
+            if (start < 0 || end > size || end - start != n) {
+                return false;
+            }
+            for (int i = start; i < end; i++) {
+                if (row[i] != '.') {
+                    return false;
+                }
+            }
+            return true;
+        }
+
         /** Whether a file may have these bytes as its name. */
         boolean isName(int start, int end) {
             int n = end - start;
@@ -903,7 +916,7 @@ public final class SpaceHouse {
 
         /** What a directory has by the name that stands there in the message, or null. */
         private Node entry(Node directory, int start, int end) {
-            if (asked.spells(start, end, "..")) {
+            if (asked.areDots(start, end, 2)) {
                 return directory.parent == null ? directory : directory.parent;
             }
             for (int i = 0; i < count; i++) {
@@ -1816,9 +1829,9 @@ public final class SpaceHouse {
         }
 
         private void takeName(int start, int end) {
-            if (whole.spells(start, end, "..")) {
+            if (whole.areDots(start, end, 2)) {
                 names -= names > 0 ? 1 : 0;
-            } else if (start < end && !whole.spells(start, end, ".") && names < LINE_BYTES) {
+            } else if (start < end && !whole.areDots(start, end, 1) && names < LINE_BYTES) {
                 nameStarts[names] = start;
                 nameEnds[names] = end;
                 names++;

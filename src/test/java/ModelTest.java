@@ -18,7 +18,7 @@ public final class ModelTest {
 
     private ModelTest(long seed) {
         random = new Random(seed);
-        style = random.nextInt(4);
+        style = random.nextInt(6);
     }
 
     public static void main(String[] args) {
@@ -40,10 +40,16 @@ public final class ModelTest {
             for (int i = 0; i < users; i++) {
                 call("login", pick(4), 0, 0, 0, 0);
             }
+            if (style > 1) {
+                prepare();
+            }
+            if (style > 3) {
+                starve();
+            }
             for (int i = 0; i < 110 && !differs; i++) {
                 int what = random.nextInt(20);
                 if (what < 13) {
-                    enter(pick(4), line());
+                    enter(someone(), line());
                 } else if (what < 16 && style > 0) {
                     ask(random.nextInt(3), request());
                 } else if (what == 16) {
@@ -51,7 +57,7 @@ public final class ModelTest {
                 } else if (what == 17) {
                     call("input", pick(3) == 0 ? 10 : 97 + pick(5), 0, 0, 0, 0);
                 } else if (what == 18) {
-                    call("wipe", pick(4), 0, 0, 0, 0);
+                    call("wipe", someone(), 0, 0, 0, 0);
                 } else {
                     script();
                 }
@@ -68,6 +74,37 @@ public final class ModelTest {
             }
         }
         return !differs;
+    }
+
+    /** Directories and files that the names of the lines are often those of. */
+    private void prepare() {
+        String[] lines = {"mkdir a", "mkdir b", "mkdir c", "mkdir a/d", "mkdir #1/a", "mkdir #1/d",
+            "echo one > f", "echo two > a/g", "echo three > b/f", "echo four > #1/x", "echo > d"};
+        for (String text : lines) {
+            enter(0, text);
+        }
+    }
+
+    /** So many fids of server 0 are used that a NEW FID lacks now and then. */
+    private void starve() {
+        for (int i = 0; i < 5; i++) {
+            call("login", 1, 0, 0, 0, 0);
+        }
+        int most = 40 + pick(8);
+        for (int p = 7; p > 1; p--) {
+            for (int d = 0; d < 8 && house.server(0, 2) < most; d++) {
+                enter(p, "open #0 0");
+            }
+        }
+    }
+
+    /** Mostly a process that there is. */
+    private int someone() {
+        int p = pick(style > 3 ? 8 : 4);
+        for (int i = 0; i < 6 && house.process(p, 0) < 0; i++) {
+            p = pick(8);
+        }
+        return p;
     }
 
     private int pick(int n) {
@@ -210,7 +247,7 @@ public final class ModelTest {
     }
 
     private String line() {
-        int what = pick(style == 3 ? 44 : 37);
+        int what = pick(style == 3 || style == 5 ? 48 : 37);
         switch (what) {
             case 0: return "cd " + path();
             case 1: return "cat " + path();
@@ -225,10 +262,10 @@ public final class ModelTest {
             case 14: return "chmod " + octal() + " " + path();
             case 15: case 16: return "stat " + path();
             case 17: case 18: return "open " + path() + " " + pick(pick(9) == 0 ? 9 : 3);
-            case 19: case 20: return "read " + pick(4) + " " + pick(pick(9) == 0 ? 150 : 101);
-            case 21: case 22: return "write " + pick(4) + " " + (pick(9) == 0 ? "kill" : "text");
-            case 23: return "seek " + pick(4) + " " + pick(pick(3) == 0 ? 10000 : 20);
-            case 24: return "close " + pick(5);
+            case 19: case 20: return "read " + descriptor() + " " + pick(pick(9) == 0 ? 150 : 101);
+            case 21: case 22: return "write " + descriptor() + " " + (pick(9) == 0 ? "kill" : "text");
+            case 23: return "seek " + descriptor() + " " + pick(pick(3) == 0 ? 10000 : 20);
+            case 24: return "close " + descriptor();
             case 25: case 26: case 27: return "bind " + flags() + path() + " " + path();
             case 28: return "mount " + flags() + pick(3) + " " + path();
             case 29: return "unmount " + path();
@@ -243,9 +280,17 @@ public final class ModelTest {
             case 38: case 39: return "bind " + flags() + name() + " " + name();
             case 40: return "for x in a b c d f g do " + inner();
             case 41: return "fork c";
+            case 43: return "cat " + (pick(2) == 0 ? "a/g" : "b/f");
+            case 44: return "echo " + words() + " > " + name() + "/" + name();
+            case 45: return "ls a";
+            case 46: return "bind -a " + name() + " a";
             case 42: return "unmount " + name();
             default: return "ls " + name();
         }
+    }
+
+    private int descriptor() {
+        return pick(3) == 0 ? pick(9) : pick(2);
     }
 
     private String inner() {
@@ -317,7 +362,7 @@ public final class ModelTest {
                 Wire.parts().put(1, 4).put(i, 8).put(part.length(), 4).raw(part)));
         }
         ask(0, Wire.whole(120, Wire.parts().put(1, 4)));
-        enter(pick(3), "run s " + words());
+        enter(someone(), "run s " + words());
     }
 
     // ------------------------------------------------------------ messages from outside
