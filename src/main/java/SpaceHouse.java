@@ -38,7 +38,8 @@ public final class SpaceHouse {
     private static final int SERVERS = 3, SHOWING = 2, KERNEL = 0, OUTSIDE = 1, FIDS = 48;
     private static final int FILES = 64, FILE_BYTES = 600, TREE_BYTES = 8192, NAME_BYTES = 12;
     private static final int MOST_SIZE = 300, LEAST_SIZE = 64, KERNEL_SIZE = 256;
-    private static final int USERS = 4, PROCESSES = 8, DESCRIPTORS = 8, VARIABLES = 26, VARIABLE_BYTES = 20;
+    private static final int USERS = 4, PROCESSES = 8, DESCRIPTORS = 8;
+    private static final int VARIABLES = 26, VARIABLE_BYTES = 20;
     private static final int POINTS = 8, MEMBERS = 6, LATEST = 40, LINE_BYTES = 100;
     private static final int PATH_NAMES = 10, PATH_BYTES = 60, PORTION = 100;
     private static final int DEPTH = 12, COMMANDS = 200, ARGUMENTS = 9;
@@ -734,19 +735,23 @@ public final class SpaceHouse {
             reply.start(kind + 1, tag);
             int error = BAD_MESSAGE;
             if (message.size() <= sizeOf(side) && isWhole(kind)) {
-                switch (kind) {
-                    case M_VERSION: error = doVersion(); break;
-                    case M_ATTACH: error = doAttach(); break;
-                    case M_WALK: error = doWalk(); break;
-                    case M_OPEN: error = doOpen(); break;
-                    case M_CREATE: error = doCreate(); break;
-                    case M_READ: error = doRead(); break;
-                    case M_WRITE: error = doWrite(); break;
-                    case M_CLUNK: error = doClunk(); break;
-                    case M_REMOVE: error = doRemove(); break;
-                    case M_STAT: error = doStat(); break;
-                    case M_WSTAT: error = doWstat(); break;
-                    default: error = 0; break;
+                Fid f = kind < M_WALK ? null : find(side, message.number(HEAD, 4));
+                if (kind < M_WALK) {
+                    error = kind == M_VERSION ? doVersion() : kind == M_ATTACH ? doAttach() : 0;
+                } else if (f == null) {
+                    error = UNKNOWN_FID;
+                } else {
+                    switch (kind) {
+                        case M_WALK: error = doWalk(f); break;
+                        case M_OPEN: error = doOpen(f); break;
+                        case M_CREATE: error = doCreate(f); break;
+                        case M_READ: error = doRead(f); break;
+                        case M_WRITE: error = doWrite(f); break;
+                        case M_CLUNK: error = doClunk(f); break;
+                        case M_REMOVE: error = doRemove(f); break;
+                        case M_STAT: error = doStat(f); break;
+                        default: error = doWstat(f); break;
+                    }
                 }
             }
             if (error != 0) {
@@ -859,11 +864,7 @@ public final class SpaceHouse {
             return NONE;
         }
 
-        private int doWalk() {
-            Fid f = find(connection, asked.number(7, 4));
-            if (f == null) {
-                return UNKNOWN_FID;
-            }
+        private int doWalk(Fid f) {
             if (f.mode != NONE) {
                 return FID_IS_OPEN;
             }
@@ -933,11 +934,7 @@ public final class SpaceHouse {
             reply.put(n.path, 8);
         }
 
-        private int doOpen() {
-            Fid f = find(connection, asked.number(7, 4));
-            if (f == null) {
-                return UNKNOWN_FID;
-            }
+        private int doOpen(Fid f) {
             if (f.mode != NONE) {
                 return FID_IS_OPEN;
             }
@@ -974,11 +971,7 @@ public final class SpaceHouse {
             return (mode & REMOVES) != 0 && keeps ? DENIED : 0;
         }
 
-        private int doCreate() {
-            Fid f = find(connection, asked.number(7, 4));
-            if (f == null) {
-                return UNKNOWN_FID;
-            }
+        private int doCreate(Fid f) {
             if (f.mode != NONE) {
                 return FID_IS_OPEN;
             }
@@ -1044,11 +1037,7 @@ public final class SpaceHouse {
             return made;
         }
 
-        private int doRead() {
-            Fid f = find(connection, asked.number(7, 4));
-            if (f == null) {
-                return UNKNOWN_FID;
-            }
+        private int doRead(Fid f) {
             if (f.mode == NONE || f.mode == WRITE_ONLY) {
                 return FID_NOT_OPEN;
             }
@@ -1133,11 +1122,7 @@ public final class SpaceHouse {
             reply.put(userName(n.muid), 3);
         }
 
-        private int doWrite() {
-            Fid f = find(connection, asked.number(7, 4));
-            if (f == null) {
-                return UNKNOWN_FID;
-            }
+        private int doWrite(Fid f) {
             if (f.mode != WRITE_ONLY && f.mode != READ_WRITE) {
                 return FID_NOT_OPEN;
             }
@@ -1205,11 +1190,7 @@ public final class SpaceHouse {
             n.length = length;
         }
 
-        private int doClunk() {
-            Fid f = find(connection, asked.number(7, 4));
-            if (f == null) {
-                return UNKNOWN_FID;
-            }
+        private int doClunk(Fid f) {
             f.used = false;
             if (f.removes && refusal(f) == 0) {
                 delete(f);
@@ -1217,11 +1198,7 @@ public final class SpaceHouse {
             return 0;
         }
 
-        private int doRemove() {
-            Fid f = find(connection, asked.number(7, 4));
-            if (f == null) {
-                return UNKNOWN_FID;
-            }
+        private int doRemove(Fid f) {
             f.used = false;
             int error = refusal(f);
             if (error == 0) {
@@ -1279,11 +1256,7 @@ public final class SpaceHouse {
             }
         }
 
-        private int doStat() {
-            Fid f = find(connection, asked.number(7, 4));
-            if (f == null) {
-                return UNKNOWN_FID;
-            }
+        private int doStat(Fid f) {
             if (f.node == null) {
                 return NO_FILE;
             }
@@ -1292,11 +1265,7 @@ public final class SpaceHouse {
             return 0;
         }
 
-        private int doWstat() {
-            Fid f = find(connection, asked.number(7, 4));
-            if (f == null) {
-                return UNKNOWN_FID;
-            }
+        private int doWstat(Fid f) {
             Node n = f.node;
             if (n == null) {
                 return NO_FILE;
