@@ -889,7 +889,7 @@ public final class SpaceHouse {
             int start = 17;
             int done = 0;
             int error = 0;
-            while (done < n && error == 0) {
+            for (int i = 0; i < n && error == 0; i++) {
                 int end = asked.stringEnd(start);
                 Node next = null;
                 if (!at.isDirectory()) {

@@ -203,6 +203,8 @@ public final class FaceTest {
         Check.due("the latest", x.message(n - 1, 4), 121);
         Check.due("40 before", x.message(n - 40, 4) > 0 ? 1 : 0, 1);
         Check.due("41 before", x.message(n - 41, 4), -1);
+        Check.due("the next one", x.message(n, 4), -1);
+        Check.due("one far away", x.message(n + 40, 4), -1);
         sum = x.sum();
         Check.due("what comes from outside does not count", new Wire(x, 0).attach(5, "ann"), 0);
         Check.due("messages", x.messages(), n);

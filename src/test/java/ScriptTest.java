@@ -91,6 +91,10 @@ public final class ScriptTest {
         Check.shows(x, 0, "if a = a echo yes  it is", "yes it is\n");
         Check.shows(x, 0, "if a = b echo yes", "");
         Check.shows(x, 0, "if a = ab echo yes", "");
+        Check.shows(x, 0, "if abc = abc echo yes", "yes\n");
+        Check.shows(x, 0, "if abc = abd echo yes", "");
+        Check.shows(x, 0, "if xbc != abc echo no", "no\n");
+        Check.shows(x, 0, "if abc != abc echo no", "");
         Check.shows(x, 0, "if a != b echo no", "no\n");
         Check.shows(x, 0, "if a != a echo no", "");
         Check.line(x, 0, "if a = a cd x", -1);

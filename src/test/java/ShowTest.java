@@ -109,6 +109,16 @@ public final class ShowTest {
         Check.shows(x, 0, "read 2 100", "");
         Check.line(x, 0, "seek 2 9999", 0);
         Check.shows(x, 0, "read 2 100", "");
+        Wire w = new Wire(x, 2);
+        w.attach(1, "bob");
+        w.walk(1, 2, "0", "status");
+        w.open(2, 0);
+        Check.due("read", w.read(2, 4, 4), 0);
+        Check.due("from offset on", w.told(), "3 1\n");
+        Check.due("read", w.read(2, 0x100000004L, 4), 0);
+        Check.due("far behind", w.told(), "");
+        Check.due("read", w.read(2, -1, 4), 0);
+        Check.due("far behind", w.told(), "");
     }
 
     private static void cons() {

@@ -434,6 +434,12 @@ public final class TreeTest {
         Check.due("anew", w.read(10, 0, 119), 0);
         Check.due("two", w.number(7, 4), 119);
         Check.due("a goes", w.walk(1, 11, "a"), 0);
+        Check.due("clunk", w.clunk(10), 0);
+        Check.due("a fid of the same number", w.walk(1, 10), 0);
+        Check.due("open", w.open(10, 0), 0);
+        Check.due("nothing was read by it", w.read(10, 119, 289), 13);
+        Check.due("anew", w.read(10, 0, 119), 0);
+        Check.due("two", w.number(7, 4), 119);
         Check.due("remove", w.remove(11), 0);
         Check.due("by how many were told", w.read(10, 119, 289), 0);
         Check.due("one", w.number(7, 4), 59);
@@ -520,6 +526,15 @@ public final class TreeTest {
         Check.due("clunk", w.clunk(13), 0);
         Check.due("it went", x.server(0, 0), 1);
         Check.due("VERSION of the ROOT", version(w, 1), 4);
+        make(w, 1, "g", 0666);
+        Check.due("g", w.walk(1, 13, "g"), 0);
+        Check.due("clunk of one that is not open", w.clunk(13), 0);
+        Check.due("g", w.walk(1, 13, "g"), 0);
+        Check.due("open without 64", w.open(13, 0), 0);
+        Check.due("clunk", w.clunk(13), 0);
+        Check.due("it stays", x.server(0, 0), 2);
+        Check.due("g", w.walk(1, 13, "g"), 0);
+        Check.due("remove", w.remove(13), 0);
         // where it may not be removed any more, clunk is done all the same
         make(w, 1, "h", 0666);
         Check.due("h", w.walk(2, 14, "h"), 0);
