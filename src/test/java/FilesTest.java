@@ -38,7 +38,7 @@ public final class FilesTest {
             "exit 0", "set", "set A", "set ab", "set 1", "set a b c", "if", "if a", "if a =",
             "if a = a", "if a = b", "if a == a echo", "if a b c d", "if a != b", "for", "for x",
             "for x in", "for x in do", "for x in a b", "for X in a do echo", "for xy in a do echo",
-            "for x on a do echo", "for do in a do echo", "run", "run a 1 2 3 4 5 6 7 8 9 0",
+            "for x on a do echo", "for do in a do echo", "for { in do echo", "for ` in do echo", "set {", "set ` a", "run", "run a 1 2 3 4 5 6 7 8 9 0",
             "cdx", "c", "#", "-echo a", "if a = a", "if a = a cd", "if a = a nonsense"};
         for (String line : lines) {
             Check.line(x, 0, line, -18);

@@ -369,6 +369,11 @@ public final class SpaceTest {
         Check.shows(x, 0, "create 666 a/made 1", "0\n");
         Check.shows(x, 0, "ls b", "y\nnew/\nmade\n");
         Check.line(x, 0, "rm a/made", 0);
+        Check.line(x, 0, "unmount c a", 0);
+        Check.line(x, 0, "unmount b a", 0);
+        Check.line(x, 0, "unmount b a", 0);
+        Check.due("a is left", x.point(0, 0, 2), 1);
+        Check.line(x, 0, "mkdir a/w", -17);
     }
 
     private static void noNewFid() {

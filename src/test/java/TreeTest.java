@@ -120,6 +120,9 @@ public final class TreeTest {
         Check.due("begins so", w.version(4294967295L, "9P2000.u"), 0);
         Check.due("300 at most", w.number(7, 4), 300);
         Check.due("9P2000", w.text(11), "9P2000");
+        Check.due("300 bytes", w.version(300, new String(new char[287]).replace('\0', 'a')), 0);
+        Check.due("unknown", w.text(11), "unknown");
+        Check.due("301 bytes", w.version(300, new String(new char[288]).replace('\0', 'a')), 14);
         Check.due("shorter", w.version(100, "9P200"), 0);
         Check.due("unknown", w.text(11), "unknown");
         Check.due("other letters", w.version(100, "9p2000"), 0);
@@ -438,6 +441,10 @@ public final class TreeTest {
         Check.due("a fid of the same number", w.walk(1, 10), 0);
         Check.due("open", w.open(10, 0), 0);
         Check.due("nothing was read by it", w.read(10, 119, 289), 13);
+        Check.due("all", w.read(10, 0, 289), 0);
+        Check.due("anew", w.read(10, 0, 59), 0);
+        Check.due("the second", w.read(10, 59, 60), 0);
+        Check.due("it is bb", w.text(11 + 41), "bb");
         Check.due("anew", w.read(10, 0, 119), 0);
         Check.due("two", w.number(7, 4), 119);
         Check.due("remove", w.remove(11), 0);
@@ -535,6 +542,15 @@ public final class TreeTest {
         Check.due("it stays", x.server(0, 0), 2);
         Check.due("g", w.walk(1, 13, "g"), 0);
         Check.due("remove", w.remove(13), 0);
+        make(w, 1, "g", 0666);
+        Check.due("g", w.walk(1, 13, "g"), 0);
+        Check.due("d", w.create(2, "j", 0666, 64), 0);
+        Check.due("it goes", w.clunk(2), 0);
+        Check.due("g, by the fid's place", w.walk(13, 2), 0);
+        Check.due("clunk of one that is not open", w.clunk(2), 0);
+        Check.due("g stays", x.server(0, 0), 2);
+        Check.due("remove", w.remove(13), 0);
+        Check.due("bob", w.attach(2, "bob"), 0);
         // where it may not be removed any more, clunk is done all the same
         make(w, 1, "h", 0666);
         Check.due("h", w.walk(2, 14, "h"), 0);
