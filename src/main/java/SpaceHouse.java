@@ -18,7 +18,7 @@ public final class SpaceHouse {
         M_WALK = 110, M_OPEN = 112, M_CREATE = 114, M_READ = 116, M_WRITE = 118, M_CLUNK = 120,
         M_REMOVE = 122, M_STAT = 124, M_WSTAT = 126;
 
-    /** A message's SIZE, type and TAG; in front of the bytes that a read tells; of those to write. */
+    /** Bytes of SIZE, type and TAG; those before the bytes that a read tells; that a write has. */
     private static final int HEAD = 7, READ_HEAD = 11, WRITE_HEAD = 23;
     /** In a wstat: where its STAT begins, and from there on where the parts of a STAT are. */
     private static final int WSTAT_AT = 13, STAT_VERSION = 9, STAT_MODE = 21, STAT_TIMES = 25,
@@ -83,10 +83,10 @@ public final class SpaceHouse {
         if (p == null) {
             return BAD;
         }
-        shell.begin(p, line);
+        shell.begin(line);
         line.clear();
         for (int i = 0; i < MANY && shell.goesOn(); i++) {
-            Command c = shell.next();
+            Command c = shell.next(p);
             if (c == null) {
                 continue;
             }
@@ -1357,7 +1357,7 @@ public final class SpaceHouse {
             ctl.device = Node.CTL;
         }
 
-        /** A process goes; its files last come first, so that none is left without its directory. */
+        /** A process goes; the last files first, so that none is left without its directory. */
         void hide(Process p) {
             for (int i = count - 1; i >= 0; i--) {
                 if (nodes[i].shown == p) {
@@ -2009,10 +2009,10 @@ public final class SpaceHouse {
 
     /** A line that is done, or is to be done, as a command. */
     private static final class Command {
-        static final int EMPTY = 0, CD = 1, CAT = 2, LS = 3, ECHO = 4, MKDIR = 5, CREATE = 6, RM = 7,
-            MV = 8, SIZE = 9, CHMOD = 10, STAT = 11, OPEN = 12, READ = 13, WRITE = 14, SEEK = 15,
-            CLOSE = 16, BIND = 17, MOUNT = 18, UNMOUNT = 19, FORK = 20, EXIT = 21, SET = 22, IF = 23,
-            FOR = 24, RUN = 25, OTHER = 26;
+        static final int EMPTY = 0, CD = 1, CAT = 2, LS = 3, ECHO = 4, MKDIR = 5, CREATE = 6,
+            RM = 7, MV = 8, SIZE = 9, CHMOD = 10, STAT = 11, OPEN = 12, READ = 13, WRITE = 14,
+            SEEK = 15, CLOSE = 16, BIND = 17, MOUNT = 18, UNMOUNT = 19, FORK = 20, EXIT = 21,
+            SET = 22, IF = 23, FOR = 24, RUN = 25, OTHER = 26;
         static final int BEFORE = 1, BEHIND = 2, TO_CREATE = 4;
 
         final Bytes text = new Bytes(LINE_BYTES);
@@ -2748,7 +2748,6 @@ public final class SpaceHouse {
     private static final class Shell {
         private final Command[] open = new Command[DEPTH];
         private final Bytes waiting = new Bytes(LINE_BYTES);
-        private Process process;
         private int depth;
         private int begun;
         private int error;
@@ -2762,8 +2761,7 @@ public final class SpaceHouse {
         }
 
         /** The line that was entered waits to be the first command. */
-        void begin(Process p, Bytes line) {
-            process = p;
+        void begin(Bytes line) {
             depth = 0;
             begun = 0;
             error = 0;
@@ -2781,10 +2779,10 @@ public final class SpaceHouse {
             return error;
         }
 
-        /** The command that is to be done now, or null: goesOn() tells whether there will be one. */
-        Command next() {
+        /** The command that is to be done now; null if goesOn() is to be asked first. */
+        Command next(Process p) {
             if (!waits) {
-                resume();
+                resume(p);
                 return null;
             }
             waits = false;
@@ -2796,7 +2794,7 @@ public final class SpaceHouse {
             Command script = innermostScript();
             depth++;
             begun++;
-            boolean fits = expands ? expand(c.text, script)
+            boolean fits = expands ? expand(p, c.text, script)
                 : c.text.take(waiting, 0, waiting.size());
             c.split();
             if (!fits) {
@@ -2816,13 +2814,13 @@ public final class SpaceHouse {
         }
 
         /** Whether all of the line that waits fits, with what its $ stand for. */
-        private boolean expand(Bytes to, Command script) {
+        private boolean expand(Process p, Bytes to, Command script) {
             boolean fits = true;
             to.clear();
             for (int i = 0; i < waiting.size() && fits; i++) {
                 int b = waiting.at(i);
                 int sign = b == '$' ? waiting.at(i + 1) : NONE;
-                Bytes value = process.variableOf(sign - 'a');
+                Bytes value = p.variableOf(sign - 'a');
                 if (sign >= '0' && sign <= '9') {
                     int word = sign - '0' + 1;
                     fits = script == null
@@ -2848,7 +2846,7 @@ public final class SpaceHouse {
         }
 
         /** The innermost command that does others has its next one wait, or ends. */
-        private void resume() {
+        private void resume(Process p) {
             if (depth <= 0 || depth > DEPTH) {
                 depth = 0;
                 return;
@@ -2858,9 +2856,9 @@ public final class SpaceHouse {
                 c.forgives = false;
                 error = 0;
             }
-            boolean ends = c.doing == Command.IF || error != 0 || process.leaving;
+            boolean ends = c.doing == Command.IF || error != 0 || p.leaving;
             if (!ends && c.doing == Command.FOR) {
-                ends = !nextWord(c);
+                ends = !nextWord(p, c);
             } else if (!ends) {
                 ends = !nextLine(c);
             }
@@ -2870,11 +2868,11 @@ public final class SpaceHouse {
         }
 
         /** Whether the next word of a FOR has its command wait (or the error that it is). */
-        private boolean nextWord(Command c) {
+        private boolean nextWord(Process p, Command c) {
             if (c.next >= c.body - 1) {
                 return false;
             }
-            Bytes value = process.variableOf(c.variableAt(1));
+            Bytes value = p.variableOf(c.variableAt(1));
             if (value == null || c.lengthOf(c.next) > VARIABLE_BYTES) {
                 error = BAD_COMMAND;
                 return false;
