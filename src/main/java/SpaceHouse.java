@@ -967,7 +967,8 @@ public final class SpaceHouse {
             if (!n.lets(user, NEEDS[how]) || (mode & EMPTIES) != 0 && !n.lets(user, WRITE)) {
                 return DENIED;
             }
-            boolean keeps = shows || n.parent != null && !n.parent.lets(user, WRITE);
+            // The ROOT has no directory, so there is none that a user may write.
+            boolean keeps = shows || n.parent == null || !n.parent.lets(user, WRITE);
             return (mode & REMOVES) != 0 && keeps ? DENIED : 0;
         }
 

@@ -419,7 +419,7 @@ final class Model {
             if (!ok || (mode & 16) != 0 && !x.may(f.user, 2)) {
                 throw new Err(3);
             }
-            if ((mode & 64) != 0 && (no == 2 || x.dir != null && !x.dir.may(f.user, 2))) {
+            if ((mode & 64) != 0 && (no == 2 || x.dir == null || !x.dir.may(f.user, 2))) {
                 throw new Err(3);
             }
             if ((mode & 16) != 0 && no != 2 && !x.grows()) {

@@ -253,12 +253,14 @@ public final class TreeTest {
         Check.due("10 with 16", w.open(20, 16), 10);
         Check.due("10 with 3", w.open(20, 3), 10);
         Check.due("16 before 10", w.open(20, 33), 16);
-        Check.due("the ROOT has no directory: 64", w.open(20, 64), 0);
+        openingRootToRemove(w);
+        Check.due("the ROOT stays", x.server(0, 0), 2);
+        Check.due("the ROOT without 64", w.open(20, 0), 0);
         Check.due("its QID", w.number(7, 1), 128);
         Check.due("4 behind it", w.number(20, 4), 0);
         Check.due("size", w.number(0, 4), 24);
+        Check.due("8 before 3 with 64", w.open(20, 64), 8);
         Check.due("clunk", w.clunk(20), 0);
-        Check.due("the ROOT stays", x.server(0, 0), 2);
         emptying(x, w);
         // 64 where the directory may not be written
         make(w, 1, "d", DIR | 511);
@@ -269,6 +271,19 @@ public final class TreeTest {
         Check.due("g", w.walk(1, 32, "d", "g"), 0);
         Check.due("3 with 64", w.open(32, 64), 3);
         Check.due("without", w.open(32, 0), 0);
+    }
+
+    /** The ROOT has no directory, so there is none that a user may write: adm neither. */
+    private static void openingRootToRemove(Wire w) {
+        for (int user = 0; user < 4; user++) {
+            Check.due("ROOT", w.walk(user, 21), 0);
+            Check.due("16 before 3 with 64", w.open(21, 64 + 4), 16);
+            Check.due("10 before 3 with 64", w.open(21, 64 + 1), 10);
+            Check.due("10 before 3 with 64", w.open(21, 64 + 16), 10);
+            Check.due("3 with 64 of the ROOT", w.open(21, 64), 3);
+            Check.due("it is not open", w.read(21, 0, 100), 9);
+            Check.due("clunk", w.clunk(21), 0);
+        }
     }
 
     private static void emptying(SpaceHouse x, Wire w) {
